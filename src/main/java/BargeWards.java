@@ -234,28 +234,24 @@ public final class BargeWards {
             if (trial.where[person] == AT_HOME) {
                 return days;
             }
-            trial.liveDay();
+            trial.liveDays(1);
         }
         return NONE;
     }
 
     public int homeAfter(int days) throws IllegalArgumentException {
         checkDays(days);
-        trial.copyFrom(town);
-        trial.liveDays(days);
-        return trial.count(AT_HOME);
+        return countBehind(days, AT_HOME);
     }
 
     public int greatHouseAfter(int days) throws IllegalArgumentException {
         checkDays(days);
-        trial.copyFrom(town);
-        trial.liveDays(days);
-        return trial.count(IN_GREAT_HOUSE);
+        return countBehind(days, IN_GREAT_HOUSE);
     }
 
     public int bestStraw(int days) throws IllegalArgumentException {
         checkDays(days);
-        int most = homeAfter(days);
+        int most = countBehind(days, AT_HOME);
         int best = NONE;
         for (int ward = 0; ward < town.wards; ward++) {
             int home = homeWithFreshStraw(ward, days);
@@ -334,6 +330,12 @@ public final class BargeWards {
         return d * DIGEST_FACTOR + x;
     }
 
+    private int countBehind(int days, int place) {
+        trial.copyFrom(town);
+        trial.liveDays(days);
+        return trial.count(place);
+    }
+
     private int homeWithFreshStraw(int ward, int days) {
         trial.copyFrom(town);
         trial.straw[ward] = 0;
@@ -386,8 +388,9 @@ public final class BargeWards {
         /** The number of the barge or ward; NONE at home and in the great house. */
         final int[] number;
         final int[] hungryDays;
-        /** Set anew each day ahead of its use, so that no copy needs it. */
+        /** These two are set anew each day ahead of their use, so that no copy needs them. */
         final boolean[] hungryToday;
+        final int[] freeToday;
 
         Town() {
             bowls = BOWLS_AT_FIRST;
@@ -400,6 +403,7 @@ public final class BargeWards {
             number = new int[MOST_PEOPLE];
             hungryDays = new int[MOST_PEOPLE];
             hungryToday = new boolean[MOST_PEOPLE];
+            freeToday = new int[MOST_WARDS];
         }
 
         void copyFrom(Town other) {
@@ -502,21 +506,17 @@ public final class BargeWards {
             return highest;
         }
 
+        /** The order of the steps is the document's: each one sees what the earlier ones left. */
         void liveDays(int days) {
             for (int lived = 0; lived < days; lived++) {
-                liveDay();
+                giveBowls();
+                changeFeversInWards();
+                bringBargesNearer();
+                ageStraw();
+                leaveWards();
+                landBarges();
+                day++;
             }
-        }
-
-        /** The order of the steps is the document's: each one sees what the earlier ones left. */
-        void liveDay() {
-            giveBowls();
-            changeFeversInWards();
-            bringBargesNearer();
-            ageStraw();
-            leaveWards();
-            landBarges();
-            day++;
         }
 
         private void giveBowls() {
@@ -612,6 +612,9 @@ public final class BargeWards {
         }
 
         private void landBarges() {
+            for (int ward = 0; ward < wards; ward++) {
+                freeToday[ward] = freeIn(ward);
+            }
             for (int barge = 0; barge < barges; barge++) {
                 if (toGo[barge] == 0 && !landAll(barge)) {
                     toGo[barge] = kept[barge];
@@ -623,30 +626,28 @@ public final class BargeWards {
         private boolean landAll(int barge) {
             boolean allLanded = true;
             for (int person = 0; person < people; person++) {
-                if (isAt(person, ON_BARGE, barge) && !land(person)) {
+                if (!isAt(person, ON_BARGE, barge)) {
+                    continue;
+                }
+                if (fever[person] == 0) {
+                    move(person, AT_HOME, NONE);
+                    continue;
+                }
+                int ward = takeFirstFreePlace();
+                if (ward == NONE) {
                     allLanded = false;
+                } else {
+                    move(person, IN_WARD, ward);
                 }
             }
             return allLanded;
         }
 
-        /** Returns whether there was somewhere to go. */
-        private boolean land(int person) {
-            if (fever[person] == 0) {
-                move(person, AT_HOME, NONE);
-                return true;
-            }
-            int ward = firstFreeWard();
-            if (ward == NONE) {
-                return false;
-            }
-            move(person, IN_WARD, ward);
-            return true;
-        }
-
-        private int firstFreeWard() {
+        /** Returns the ward of this place, or NONE. */
+        private int takeFirstFreePlace() {
             for (int ward = 0; ward < wards; ward++) {
-                if (freeIn(ward) > 0) {
+                if (freeToday[ward] > 0) {
+                    freeToday[ward]--;
                     return ward;
                 }
             }

@@ -101,5 +101,10 @@ public final class WardsAndBargesTest {
         Check.due("22: highestFeverOn(1)", t.highestFeverOn(1), 9);
         t.pass(1);
         Check.due("22: highestFeverOn(0) a day later", t.highestFeverOn(0), 7);
+        BargeWards u = new BargeWards();
+        u.addBarge(5);
+        u.board(0, 6);
+        u.board(0, 3);
+        Check.due("22: highestFeverOn(0), the first one", u.highestFeverOn(0), 6);
     }
 }

@@ -10,9 +10,11 @@ public final class WhatWouldBeTest {
         wrongInputs();
         promise33DaysUntilHome();
         promise33LongestWaits();
+        promise33KeptAgain();
         promise34HomeAfter();
         promise35GreatHouseAfter();
         promise36BestStraw();
+        promise36FreshStrawIsNoDayOld();
         promise36OfSeveralTheSmallest();
         promise36TheMostWins();
         promise36FreshStrawThatHarms();
@@ -91,6 +93,18 @@ public final class WhatWouldBeTest {
         Check.due("33: without a ward never", noWard.daysUntilHome(0), -1);
     }
 
+    /** Person 1 finds the ward full, is kept again, and lands two days later. */
+    private static void promise33KeptAgain() {
+        BargeWards t = new BargeWards();
+        t.addWard(1);
+        t.addBarge(1);
+        t.addBarge(2);
+        t.board(0, 2);
+        t.board(1, 1);
+        Check.due("33: who lands first", t.daysUntilHome(0), 3);
+        Check.due("33: who is kept again", t.daysUntilHome(1), 5);
+    }
+
     private static void promise34HomeAfter() {
         BargeWards t = new BargeWards();
         t.addWard(8);
@@ -152,6 +166,22 @@ public final class WhatWouldBeTest {
         t.pass(1);
         t.carry(0, 1);
         return t;
+    }
+
+    /** Fresh straw helps for five days: a fever of 5 goes, one of 6 does not. */
+    private static void promise36FreshStrawIsNoDayOld() {
+        BargeWards t = new BargeWards();
+        t.addWard(1);
+        t.addWard(1);
+        t.addBarge(1);
+        t.pass(5);
+        t.board(0, 6);
+        t.board(0, 5);
+        t.pass(1);
+        Check.due("36: bestStraw(4), a day too short for a fever of 5", t.bestStraw(4), -1);
+        Check.due("36: bestStraw(5) for a fever of 5, not of 6", t.bestStraw(5), 1);
+        t.layStraw(1);
+        Check.due("36: a fever of 6 stays too long", t.bestStraw(40), -1);
     }
 
     private static void promise36OfSeveralTheSmallest() {
