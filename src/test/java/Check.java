@@ -6,8 +6,19 @@ final class Check {
 
     private static int asked = 0;
     private static int wrong = 0;
+    private static String about = "";
 
     private Check() {
+    }
+
+    /** What is told from now on begins with this. */
+    static void about(String text) {
+        about = text;
+    }
+
+    /** How many checks there were so far. */
+    static int asked() {
+        return asked;
     }
 
     static void due(String what, long got, long want) {
@@ -61,7 +72,7 @@ final class Check {
     private static void tell(String text) {
         wrong++;
         if (wrong <= 50) {
-            System.out.println("  " + text);
+            System.out.println("  " + about + text);
         }
     }
 }
