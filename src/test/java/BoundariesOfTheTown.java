@@ -19,6 +19,7 @@ final class BoundariesOfTheTown {
             BoundariesOfTheTown::promise3DaysIsNot1To9);
         s.promise(3, "Throws `IllegalStateException` if there are 4", BoundariesOfTheTown::promise3ThereAre4);
 
+        s.promise(4, "Takes a person aboard a barge", BoundariesOfTheTown::promise4TakesAboardThisBarge);
         s.promise(4, "one that is at the quay is kept again, for as many days as at first",
             BoundariesOfTheTown::promise4AtTheQuayItIsKeptAgain);
         s.promise(4, "one that is at the quay", BoundariesOfTheTown::promise4OffTheQuayItIsNot);
@@ -157,6 +158,18 @@ final class BoundariesOfTheTown {
 
     // ---- promise 4
 
+    private static void promise4TakesAboardThisBarge() {
+        for (int chosen = 0; chosen < 4; chosen++) {
+            BargeWards t = Towns.withBarges(5, 5, 5, 5);
+            t.board(chosen, 7);
+            for (int barge = 0; barge < 4; barge++) {
+                Check.due("peopleOn(" + barge + "), one on " + chosen, t.peopleOn(barge), barge == chosen ? 1 : 0);
+            }
+            Check.due("bargeOf", t.bargeOf(0), chosen);
+            Check.due("wardOf", t.wardOf(0), -1);
+        }
+    }
+
     private static void promise4AtTheQuayItIsKeptAgain() {
         for (int kept = 1; kept <= 9; kept++) {
             BargeWards t = Towns.withBarges(kept, 9);
@@ -216,7 +229,15 @@ final class BoundariesOfTheTown {
     private static void promise4ThereAre30People() {
         Check.due("board with 28", Towns.withPeople(28).board(1, 0), 28);
         Check.due("board with 29", Towns.withPeople(29).board(1, 0), 29);
-        Towns.Maker thirty = () -> Towns.withPeople(30);
+        Towns.Maker thirty = () -> {
+            BargeWards t = Towns.withBarges(1, 9);
+            for (int i = 0; i < 30; i++) {
+                t.board(i % 2, i % 2);
+            }
+            t.pass(1);
+            return t;
+        };
+        Check.due("barge 0 is at the quay", thirty.make().daysToGo(0), 0);
         Towns.refused("board(0, 0) with 30, at the quay", thirty, Towns.STATE, t -> t.board(0, 0));
         Towns.refused("board(1, 9) with 30, off the quay", thirty, Towns.STATE, t -> t.board(1, 9));
     }
@@ -290,18 +311,24 @@ final class BoundariesOfTheTown {
 
     private static void promise7Carries() {
         BargeWards t = Towns.busy();
+        t.setBowls(1);
+        t.pass(1);
         t.carry(0, 1);
         Check.due("wardOf(0)", t.wardOf(0), 1);
         Check.due("wardOf(1) stays", t.wardOf(1), 1);
         Check.due("peopleIn(0)", t.peopleIn(0), 0);
         Check.due("peopleIn(1)", t.peopleIn(1), 2);
-        Check.due("feverOf(0) stays", t.feverOf(0), 4);
+        Check.due("feverOf(0) stays", t.feverOf(0), 3);
         Check.due("hungryDaysOf(0) stays", t.hungryDaysOf(0), 0);
-        Check.due("strawOf(0) stays", t.strawOf(0), 2);
-        Check.due("strawOf(1) stays", t.strawOf(1), 0);
+        Check.due("strawOf(0) stays", t.strawOf(0), 3);
+        Check.due("strawOf(1) stays", t.strawOf(1), 1);
         t.carry(1, 0);
         Check.due("wardOf(1), into the place that got free", t.wardOf(1), 0);
+        Check.due("feverOf(1) stays", t.feverOf(1), 6);
+        Check.due("hungryDaysOf(1) stays", t.hungryDaysOf(1), 1);
         Check.due("freePlaces() stay", t.freePlaces(), 1);
+        Check.due("day() stays", t.day(), 3);
+        Check.due("bowlsEaten() stays", t.bowlsEaten(), 3);
     }
 
     private static void promise7ReturnsTheWard() {

@@ -155,6 +155,16 @@ final class BoundariesOfWhatWouldBe {
             t.daysUntilHome(p);
         }
         Towns.alike("behind daysUntilHome", t, Towns.busy());
+        for (int p = 0; p < 30; p++) {
+            askedAndAlike("daysUntilHome", p, BargeWards::daysUntilHome);
+        }
+    }
+
+    /** Five wards, four barges, 30 people, of whom some were hungry: asking changes none of it. */
+    private static void askedAndAlike(String name, int about, Towns.CallAt question) {
+        BargeWards asked = Towns.hungry();
+        question.on(asked, about);
+        Towns.alike("behind " + name + "(" + about + ") in a full town", asked, Towns.hungry());
     }
 
     private static void promise33NoSuchPerson() {
@@ -194,6 +204,7 @@ final class BoundariesOfWhatWouldBe {
             BargeWards t = Towns.busy();
             int foretold = t.homeAfter(days);
             Towns.alike("behind homeAfter(" + days + ")", t, Towns.busy());
+            askedAndAlike("homeAfter", days, BargeWards::homeAfter);
             t.pass(days);
             Check.due("peopleHome() behind " + days, t.peopleHome(), foretold);
         }
@@ -259,6 +270,7 @@ final class BoundariesOfWhatWouldBe {
             twin.setBowls(0);
             int foretold = t.greatHouseAfter(days);
             Towns.alike("behind greatHouseAfter(" + days + ")", t, twin);
+            askedAndAlike("greatHouseAfter", days, BargeWards::greatHouseAfter);
             t.pass(days);
             Check.due("peopleInGreatHouse() behind " + days, t.peopleInGreatHouse(), foretold);
         }
@@ -377,6 +389,7 @@ final class BoundariesOfWhatWouldBe {
             Check.due("strawOf(0) behind bestStraw(" + days + ")", t.strawOf(0), 9);
             Check.due("strawOf(1) behind bestStraw(" + days + ")", t.strawOf(1), 9);
             Towns.alike("behind bestStraw(" + days + ")", t, twin);
+            askedAndAlike("bestStraw", days, BargeWards::bestStraw);
         }
     }
 

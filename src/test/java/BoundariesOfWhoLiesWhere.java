@@ -303,6 +303,13 @@ final class BoundariesOfWhoLiesWhere {
         }
         BargeWards one = Towns.aboard(9, 0, 1);
         Check.due("highestFeverOn of 0 and 1", one.highestFeverOn(0), 1);
+        for (int sick = 0; sick < 30; sick += 29) {
+            BargeWards full = Towns.withBarges(9);
+            for (int p = 0; p < 30; p++) {
+                full.board(0, p == sick ? 9 : 8);
+            }
+            Check.due("highestFeverOn(0), of " + sick + " of 30", full.highestFeverOn(0), 9);
+        }
     }
 
     private static void promise22ZeroWithoutOne() {

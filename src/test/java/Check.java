@@ -4,9 +4,26 @@ final class Check {
         long answer();
     }
 
+    private static final long MOST_MILLISECONDS = 300_000;
+
     private static int asked = 0;
     private static int wrong = 0;
-    private static String about = "";
+    private static volatile String about = "";
+
+    /** A call that never ends is wrong too, and must not hold up .ci/run for good. */
+    static {
+        Thread watch = new Thread(() -> {
+            try {
+                Thread.sleep(MOST_MILLISECONDS);
+            } catch (InterruptedException e) {
+                return;
+            }
+            System.out.println("  " + about + "a call does not end");
+            Runtime.getRuntime().halt(1);
+        });
+        watch.setDaemon(true);
+        watch.start();
+    }
 
     private Check() {
     }
